@@ -257,9 +257,14 @@ public final class PromiseTest {
         due(0, plate.whole(4), "cost found");
         plate.undo();
         due(2008, plate.whole(2), "x brought back");
-        // Steps of 12 overshoot, of 6 leave 2, and then 3 and 1 follow.
-        plate.search(12);
-        due(0, plate.whole(4), "cost found with a step of 12");
+        due(4, plate.search(12), "steps of 12, 6, 3 and 1");
+        due(2000, plate.whole(2), "x found by them");
+        due(2000, plate.whole(3), "y found by them");
+        plate.setPole(1900, 2050);
+        due(2, plate.search(100), "steps of 100, 50, 25, 12, 6, 3 and 1");
+        due(1850, plate.whole(2), "x where it ends");
+        due(2150, plate.whole(3), "y where it ends");
+        due(14, plate.whole(4), "the cost where no step leads on");
     }
 
     private static void searchTakesTheFirst() {
@@ -272,19 +277,31 @@ public final class PromiseTest {
         due(1, plate.search(64), "one step");
         due(2900, plate.whole(2), "x on the middle line");
         due(1936, plate.whole(3), "y of the first place");
-        plate.setPole(6000, 2000);
-        plate.search(512);
-        due(0, plate.whole(4), "cost from the edge of the range");
+        ArcPlate upright = withPoints(1, 2000, 3000, 2000, 2800);
+        upright.setPole(2000, 2964);
+        due(1, upright.search(64), "one step upwards");
+        due(1936, upright.whole(2), "x of the first place, that with the least i");
+        due(2900, upright.whole(3), "y on the middle line");
+        // Down, and to the right: the only place of the eight with a cost of 0 is the last one.
+        ArcPlate last = withPoints(1, 2010, 2000, 2000, 2010, 1990, 2000, 2000, 1990);
+        last.setPole(1992, 1992);
+        due(1, last.search(8), "one step to the last place");
+        due(2000, last.whole(2), "x of the last place");
+        due(2000, last.whole(3), "y of the last place");
     }
 
     private static void searchStaysInRange() {
         // Farther off the distances to both points would differ still less, but for the range.
         ArcPlate plate = withPoints(1, 4000, 1900, 4000, 2100);
         plate.setPole(6000, 6000);
-        int moves = plate.search(1);
-        due(1, moves > 0 ? 1 : 0, "moves");
-        due(6000, plate.whole(2), "x at its edge");
-        badValue(plate, "a place beyond", () -> plate.costAt(6001, plate.whole(3)));
+        due(4, plate.search(100), "moves along the edge");
+        due(6000, plate.whole(2), "x at its most");
+        due(5600, plate.whole(3), "y then");
+        due(174, plate.whole(4), "cost then");
+        plate.setPole(-2000, -2000);
+        due(10, plate.search(512), "moves from the corner");
+        due(-2000, plate.whole(2), "x at its least");
+        due(2000, plate.whole(3), "y as far from both points");
     }
 
     private static void addStar() {
@@ -336,6 +353,10 @@ public final class PromiseTest {
         for (int what = 0; what < 5; what++) {
             due(values[what], plate.point(0, 0, what), "value " + what);
         }
+        plate.set(1, 3);
+        plate.set(2, -3);
+        due(2299, plate.point(0, 0, 3), "x with the other drift");
+        due(1602, plate.point(0, 0, 4), "y with the other drift");
         plate.set(1, 0);
         plate.set(2, 0);
         due(500, plate.point(0, 0, 5), "radius");
@@ -352,7 +373,8 @@ public final class PromiseTest {
         // Around (2000, 2000), with the angles that the steps of turning lead to.
         int[][] known = {{2000, 2000, 0, 0}, {2100, 2000, 100, 0}, {2000, 2100, 100, 90001}, {1900, 2000, 100, 180000},
             {2000, 1900, 100, 269999}, {2071, 2071, 100, 45000}, {1929, 2071, 100, 135000},
-            {1929, 1929, 100, 225000}, {2071, 1929, 100, 315000}, {3000, 2001, 1000, 59}};
+            {1929, 1929, 100, 225000}, {2071, 1929, 100, 315000}, {3000, 2001, 1000, 59},
+            {2000, 2001, 1, 90043}, {1234, 3456, 1645, 117749}};
         ArcPlate plate = withTrails(1);
         for (int p = 0; p < known.length; p++) {
             plate.addPoint(0, p, known[p][0], known[p][1]);
@@ -674,6 +696,12 @@ public final class PromiseTest {
         due(225, two.meanRate(), "of the good trail alone");
         two.set(4, 180000);
         due(-222, two.meanRate(), "of both: -45000 / 203, rounded down");
+        ArcPlate uneven = withPoints(11, 2100, 2000, 2071, 2071);
+        uneven.set(0, 4091);
+        due(4090, uneven.meanRate(), "45000 / 11, rounded down");
+        ArcPlate brief = withPoints(1, 2100, 2000, 2071, 2071);
+        brief.set(4, 180000);
+        due(45000, brief.meanRate(), "45000 in one frame");
     }
 
     private static void meanScale() {
@@ -816,7 +844,8 @@ public final class PromiseTest {
         String[] texts = {"trail; point 1 0 0 0; trail;", "trail; point 0 1001 0 0; trail;", "trail; star 0 0 0; trail;",
             "trail; pole 6001 0; trail;", "trail; set 10 0; trail;", "trail; back 5001; trail;", "trail; search 0; trail;",
             "trail; search 513; trail;", "trail; star 1 360000 0; trail;", "trail; point 0 1 999999 0; trail;",
-            "trail; point 0 1 1 4001; trail;", "trail; set 0 5001; trail;"};
+            "trail; point 0 1 1 4001; trail;", "trail; set 0 5001; trail;", "trail; star 1 7 10; trail;",
+            "trail; pole 0 6001; trail;", "trail; set 6 0; trail;", "trail; star 100001 0 0; trail;"};
         for (int i = 0; i < texts.length; i++) {
             due(1, run(plate, texts[i]), texts[i]);
             due(i == 0 ? 1 : 2, plate.stop(), "stop of " + texts[i]);
@@ -842,12 +871,15 @@ public final class PromiseTest {
             "trail 5;", "trail5;", "set 3 7", "set 3;", "set 3 ;", "set3 7;", "set 3 7 8;", "set 3 1234567;", "set 3 -7;",
             "set\t3 7;", "search 5x", "search 5 x", "back", "back 1", "trail; sta", "trail; star", "5;", "set", "set ",
             "point 0 1 2;", "star 1 2 3 4;", "pole 1;", "search;", "back ;", "trail; trail, trail;", "setx", "set{", "`",
+            "trailz;", "z", "xrail;", "ztar 1 1 1;", "stat 1 1 1;", "sea", "searc 1;", "searchh 1;", "p", "b",
             "search 5/", "search 5:", "search 0000001;", "trail ;  trail  :", "trail;trail;pole 1 1", "se t;", "TRAIL;"};
         int[] due = {5, 6, 0, 0, 2, 0, 0, 6, 6, 0,
             6, 5, 7, 5, 6, 3, 8, 12, 6,
             3, 8, 9, 4, 6, 7, 11, 0, 3, 4,
             11, 11, 6, 6, 5, 12, 0, 3, 0,
+            0, 0, 0, 0, 0, 0, 0, 0, 0, 0,
             8, 8, 13, 16, 20, 0, 0};
+        due(texts.length, due.length, "texts");
         for (int i = 0; i < texts.length; i++) {
             ArcPlate plate = new ArcPlate();
             due(-10 - due[i], run(plate, texts[i]), "\"" + texts[i] + "\"");
