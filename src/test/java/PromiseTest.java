@@ -1,88 +1,5 @@
 /** Each promise of the document by itself: ordinary calls, the edges that it names, and wrong ones. */
-public final class PromiseTest {
-    private static final int NONE = ArcPlate.NONE;
-    private static int wrong = 0;
-    private static int checks = 0;
-    private static String promise = "";
-
-    private interface Call {
-        long answer();
-    }
-
-    private static void due(long want, long got, String what) {
-        checks++;
-        if (want != got) {
-            wrong++;
-            System.out.println(promise + ": " + what + " answered " + got + ", due is " + want);
-        }
-    }
-
-    /** The call throws just this exception, and the plate is as it was. */
-    private static void thrown(Class<? extends RuntimeException> want, ArcPlate plate, String what, Call call) {
-        checks++;
-        long before = plate.digest();
-        String got;
-        try {
-            got = String.valueOf(call.answer());
-        } catch (RuntimeException e) {
-            got = e.getClass().getSimpleName();
-        }
-        if (!got.equals(want.getSimpleName())) {
-            wrong++;
-            System.out.println(promise + ": " + what + " answered " + got + ", due is " + want.getSimpleName());
-        }
-        due(before, plate.digest(), "digest() after " + what);
-    }
-
-    private static void noSuch(ArcPlate plate, String what, Call call) {
-        thrown(IndexOutOfBoundsException.class, plate, what, call);
-    }
-
-    private static void badValue(ArcPlate plate, String what, Call call) {
-        thrown(IllegalArgumentException.class, plate, what, call);
-    }
-
-    private static void badState(ArcPlate plate, String what, Call call) {
-        thrown(IllegalStateException.class, plate, what, call);
-    }
-
-    private static void write(ArcPlate plate, String text) {
-        plate.clearCommands();
-        for (int i = 0; i < text.length(); i++) {
-            plate.type(text.charAt(i));
-        }
-    }
-
-    private static int run(ArcPlate plate, String text) {
-        write(plate, text);
-        return plate.runCommands();
-    }
-
-    private static ArcPlate withTrails(int trails) {
-        ArcPlate plate = new ArcPlate();
-        for (int t = 0; t < trails; t++) {
-            plate.addTrail();
-        }
-        return plate;
-    }
-
-    /** One trail of points at (x, y) pairs, in frames step apart from 0 on. */
-    private static ArcPlate withPoints(int step, int... places) {
-        ArcPlate plate = withTrails(1);
-        for (int p = 0; 2 * p < places.length; p++) {
-            plate.addPoint(0, p * step, places[2 * p], places[2 * p + 1]);
-        }
-        return plate;
-    }
-
-    private static long hash(long... values) {
-        long h = 18761;
-        for (long v : values) {
-            h = 31 * h + v;
-        }
-        return h;
-    }
-
+public final class PromiseTest extends Checks {
     private static void newObject() {
         ArcPlate plate = new ArcPlate();
         int[] whole = {0, 0, 2000, 2000, 0, 0, 0, 0, 0, 0, 0};
@@ -840,18 +757,18 @@ public final class PromiseTest {
     }
 
     private static void runUntilTheStop() {
-        ArcPlate plate = new ArcPlate();
         String[] texts = {"trail; point 1 0 0 0; trail;", "trail; point 0 1001 0 0; trail;", "trail; star 0 0 0; trail;",
             "trail; pole 6001 0; trail;", "trail; set 10 0; trail;", "trail; back 5001; trail;", "trail; search 0; trail;",
             "trail; search 513; trail;", "trail; star 1 360000 0; trail;", "trail; point 0 1 999999 0; trail;",
             "trail; point 0 1 1 4001; trail;", "trail; set 0 5001; trail;", "trail; star 1 7 10; trail;",
             "trail; pole 0 6001; trail;", "trail; set 6 0; trail;", "trail; star 100001 0 0; trail;"};
         for (int i = 0; i < texts.length; i++) {
-            due(1, run(plate, texts[i]), texts[i]);
-            due(i == 0 ? 1 : 2, plate.stop(), "stop of " + texts[i]);
-            due(1, plate.whole(0), "trails by " + texts[i]);
-            plate.undo();
+            ArcPlate fresh = new ArcPlate();
+            due(1, run(fresh, texts[i]), texts[i]);
+            due(i == 0 ? 1 : 2, fresh.stop(), "stop of " + texts[i]);
+            due(1, fresh.whole(0), "trails by " + texts[i]);
         }
+        ArcPlate plate = new ArcPlate();
         due(2, run(plate, "trail;point 0 1 1 1;point 0 1 2 2;trail;"), "the same frame again");
         due(3, plate.stop(), "its stop");
         due(1, plate.trail(0, 0), "points");
@@ -960,14 +877,12 @@ public final class PromiseTest {
         due(2, plate.setting(0), "the rate as at first");
     }
 
-    private static void undoOfEverything() {
+    /** A plate after the first of four changes. */
+    private static ArcPlate changed(int changes) {
         ArcPlate plate = twoTrailsAndStars();
         plate.setPole(2001, 2002);
         plate.set(0, 225);
-        long[] due = new long[4];
-        long[] got = new long[4];
-        for (int n = 0; n < 4; n++) {
-            due[n] = withoutStack(plate);
+        for (int n = 0; n < changes; n++) {
             if (n == 0) {
                 plate.removeTrail(0);
             } else if (n == 1) {
@@ -978,10 +893,16 @@ public final class PromiseTest {
                 run(plate, "set 1 5;set 2 6;set 3 7;set 4 8;set 5 9;set 6 10;set 7 11;set 8 12;set 9 1;back 3;trail;pole 1 2;");
             }
         }
-        for (int n = 3; n >= 0; n--) {
-            plate.undo();
-            got[n] = withoutStack(plate);
-            due(due[n], got[n], "the state before change " + n);
+        return plate;
+    }
+
+    private static void undoOfEverything() {
+        for (int n = 0; n < 4; n++) {
+            ArcPlate plate = changed(4);
+            for (int back = 4; back > n; back--) {
+                plate.undo();
+            }
+            due(withoutStack(changed(n)), withoutStack(plate), "the state before change " + n);
         }
     }
 
@@ -1029,97 +950,93 @@ public final class PromiseTest {
         due(full.digest(), full.digest(), "digest twice");
     }
 
-    private static void tell(int number) {
-        promise = "promise " + number;
-    }
-
     private static void testChanges() {
-        tell(1);
+        tell("promise 1");
         newObject();
-        tell(2);
+        tell("promise 2");
         addTrail();
         addTrailAfterRemoval();
-        tell(3);
+        tell("promise 3");
         removeTrail();
-        tell(4);
+        tell("promise 4");
         addPoint();
         addPointRefused();
-        tell(5);
+        tell("promise 5");
         removePoint();
-        tell(6);
+        tell("promise 6");
         set();
-        tell(7);
+        tell("promise 7");
         setPole();
-        tell(8);
+        tell("promise 8");
         search();
         searchTakesTheFirst();
         searchStaysInRange();
-        tell(9);
+        tell("promise 9");
         addStar();
-        tell(10);
+        tell("promise 10");
         removeStar();
     }
 
     private static void testValues() {
-        tell(11);
+        tell("promise 11");
         point();
         pointRadiusAndAngle();
-        tell(12);
+        tell("promise 12");
         trail();
         trailOfFewPoints();
         trailSweeps();
         trailIsGood();
-        tell(13);
+        tell("promise 13");
         star();
         matchesByTheLeast();
         matchesOfEqualCosts();
-        tell(14);
+        tell("promise 14");
         starAngle();
-        tell(15);
+        tell("promise 15");
         cost();
         costIsByTheFirstPoint();
         costAtItsGreatest();
-        tell(16);
+        tell("promise 16");
         missing();
-        tell(17);
+        tell("promise 17");
         setting();
-        tell(18);
+        tell("promise 18");
         whole();
     }
 
     private static void testWhatIf() {
-        tell(19);
+        tell("promise 19");
         costAt();
-        tell(20);
+        tell("promise 20");
         meanRate();
-        tell(21);
+        tell("promise 21");
         meanScale();
-        tell(22);
+        tell("promise 22");
         bestZero();
         bestZeroByMatches();
-        tell(23);
+        tell("promise 23");
         bestDrift();
         bestDriftInRange();
     }
 
     private static void testCommands() {
-        tell(24);
+        tell("promise 24");
         type();
-        tell(25);
+        tell("promise 25");
         clearCommands();
-        tell(26);
+        tell("promise 26");
         runCommands();
         runSearches();
         runUntilTheStop();
         faults();
         textsWithoutFault();
         runIsUndoable();
-        tell(27);
+        tell("promise 27");
         stop();
-        tell(28);
+        tell("promise 28");
         undo();
         undoOfEverything();
-        tell(29);
+        tell("promise 29");
         digest();
     }
 
@@ -1128,9 +1045,6 @@ public final class PromiseTest {
         testValues();
         testWhatIf();
         testCommands();
-        System.out.println(checks + " checks, " + wrong + " wrong");
-        if (wrong != 0) {
-            System.exit(1);
-        }
+        end();
     }
 }

