@@ -292,6 +292,8 @@ public final class CatalogEdgeTest extends Checks {
         due(1886, withStars(atRadii(100), 53).meanScale(), "100 / 53");
         due(0, withStars(atRadii(0), 1).meanScale(), "0 / 1");
         due(987, withStars(atRadii(100, 300), 103, 302, 900).meanScale(), "400 / 405, without the third star");
+        due(909, withStars(atRadii(100), 900, 110).meanScale(), "100 / 110, of the second star alone");
+        due(1100, withStars(atRadii(900, 110), 100).meanScale(), "110 / 100, of the second trail alone");
         ArcPlate small = withStars(atRadii(100), 100000);
         small.set(7, 1);
         due(1, small.meanScale(), "100 / 100000");
@@ -376,6 +378,12 @@ public final class CatalogEdgeTest extends Checks {
         due(20000, near.bestZero(), "with a tolerance of 2");
         near.set(5, 1);
         due(10000, near.bestZero(), "the lowest one without matches");
+        // The other way round: the least cost comes first, then a greater one with a lower zero, then with a higher one.
+        ArcPlate falling = atRadii(100);
+        falling.addStar(102, 330000, 0);
+        falling.addStar(103, 350000, 0);
+        falling.addStar(104, 310000, 0);
+        due(30000, falling.bestZero(), "the least cost before greater ones");
         // Two matches rather than one without a cost.
         ArcPlate two = atRadii(100, 300);
         two.addStar(100, 360000 - 50, 0);

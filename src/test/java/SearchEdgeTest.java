@@ -131,16 +131,23 @@ public final class SearchEdgeTest extends Checks {
     }
 
     private static void drifts() {
-        tell("the search is by places less the drift");
-        // Measured 10 apart, and 10 frames apart with a drift of 100: both at one place then.
-        ArcPlate plate = withTrails(1);
-        plate.addPoint(0, 0, 2500, 2000);
-        plate.addPoint(0, 10, 2510, 2000);
-        plate.set(1, 100);
-        due(0, plate.search(512), "moves with the drift");
-        plate.set(1, 0);
-        due(10, plate.whole(4), "cost without it");
-        due(1, plate.search(512) > 0 ? 1 : 0, "whether it moves without it");
+        tell("the search is by places less the drift, in x by u and in y by v");
+        // Measured 10 apart, in frames 10 apart: with a drift of -100 the second place is 20 off, and the pole goes
+        // to the line between both; without it the pole would be on that line at first.
+        ArcPlate across = withPole(2505, 2000);
+        across.addPoint(0, 0, 2500, 2000);
+        across.addPoint(0, 10, 2510, 2000);
+        across.set(1, -100);
+        due(10, across.whole(4), "cost with the drift u");
+        due(5, across.search(1), "moves with the drift u");
+        duePole(across, 2510, 1995);
+        ArcPlate upright = withPole(2000, 2505);
+        upright.addPoint(0, 0, 2000, 2500);
+        upright.addPoint(0, 10, 2000, 2510);
+        upright.set(2, -100);
+        due(10, upright.whole(4), "cost with the drift v");
+        due(5, upright.search(1), "moves with the drift v");
+        duePole(upright, 1995, 2510);
     }
 
     private static void searchesAreUndone() {

@@ -254,6 +254,23 @@ public final class TrailEdgeTest extends Checks {
         due(fullPlate().whole(4), fullPlate().costAt(2000, 2000), "of a full plate, by costAt");
     }
 
+    private static void costsWithADrift() {
+        tell("the cost of the plate is by places less the drift, in x by u and in y by v");
+        // Two points 300 apart in x, 400 in y; the drift takes 100 or 200 away from the second one.
+        int[][] known = {{0, 0, 500}, {100, 0, 447}, {0, 100, 424}, {100, 100, 360}, {-100, 0, 565}, {0, -100, 583}};
+        for (int[] row : known) {
+            ArcPlate plate = withPoints(100, 2000, 3000, 2300, 3400);
+            plate.setPole(2000, 3000);
+            plate.set(1, row[0]);
+            plate.set(2, row[1]);
+            due(row[2], plate.whole(4), "cost with the drift " + row[0] + ", " + row[1]);
+            due(row[2], plate.trail(0, 2), "spread with it");
+            due(row[2], plate.point(0, 1, 5), "radius of the second point");
+            due(row[2], plate.costAt(2000, 3000), "costAt with it");
+            due(row[2], plate.setPole(2000, 3000), "setPole with it");
+        }
+    }
+
     private static void polesAtTheirEnds() {
         tell("promises 7 and 19: the pole at the ends of its range");
         int[][] corners = {{-2000, -2000}, {6000, -2000}, {-2000, 6000}, {6000, 6000}};
@@ -424,6 +441,28 @@ public final class TrailEdgeTest extends Checks {
         due(100, plate.setting(2), "v stays");
     }
 
+    private static void bestDriftsBesideTheDiagonal() {
+        tell("promise 23: the cost is that with the pole, in x by u and in y by v");
+        // The first point is at the pole; by 3 and 4 the second one is there, too.
+        ArcPlate plate = withPoints(100, 2500, 1000, 2503, 1004);
+        plate.setPole(2500, 1000);
+        due(103104, plate.bestDrift(5), "both in reach");
+        due(103104, plate.bestDrift(4), "just in reach");
+        // One place off in x and in y the root is 1, as it is with one of them.
+        due(102103, plate.bestDrift(3), "v beyond it");
+        plate.set(1, 8);
+        due(103104, plate.bestDrift(5), "u from 8, just in reach");
+        plate.set(1, 9);
+        due(104103, plate.bestDrift(5), "u from 9, beyond it");
+        plate.set(1, 3);
+        plate.set(2, -1);
+        due(103104, plate.bestDrift(5), "v from -1, just in reach");
+        plate.set(2, 9);
+        due(103104, plate.bestDrift(5), "v from 9, just in reach");
+        plate.set(2, 10);
+        due(102105, plate.bestDrift(5), "v from 10, beyond it");
+    }
+
     private static void bestDriftsUpwards() {
         tell("promise 23: up to 100 at the most, whatever would fit better");
         int[][] known = {{0, 5, 5}, {0, 4, 4}, {0, 0, 0}, {94, 5, 99}, {95, 5, 100}, {96, 5, 100}, {99, 1, 100},
@@ -456,6 +495,7 @@ public final class TrailEdgeTest extends Checks {
         meanRadii();
         spreads();
         costOfThePlate();
+        costsWithADrift();
         polesAtTheirEnds();
         expectedSweeps();
         misfits();
@@ -469,6 +509,7 @@ public final class TrailEdgeTest extends Checks {
         meanRates();
         meanRateOfAll();
         bestDrifts();
+        bestDriftsBesideTheDiagonal();
         bestDriftsUpwards();
         end();
     }

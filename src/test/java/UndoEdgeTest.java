@@ -230,6 +230,72 @@ public final class UndoEdgeTest extends Checks {
         }
     }
 
+    private static void askedBefore(String what, ToLongFunction<ArcPlate> change) {
+        ArcPlate asked = oneSaved();
+        asked.digest();
+        asked.bestZero();
+        change.applyAsLong(asked);
+        ArcPlate silent = oneSaved();
+        change.applyAsLong(silent);
+        due(silent.digest(), asked.digest(), "digest after " + what);
+    }
+
+    private static void askingMakesNoDifference() {
+        tell("what was asked before a change makes no difference to what is answered behind it");
+        askedBefore("addTrail", ArcPlate::addTrail);
+        askedBefore("removeTrail", plate -> plate.removeTrail(0));
+        askedBefore("addPoint", plate -> plate.addPoint(0, 0, 2000, 2050));
+        askedBefore("removePoint", plate -> plate.removePoint(0, 1));
+        for (int what = 0; what <= 9; what++) {
+            int setting = what;
+            askedBefore("set of " + what, plate -> plate.set(setting, 9));
+        }
+        askedBefore("setPole", plate -> plate.setPole(1990, 2000));
+        askedBefore("search", plate -> plate.setPole(1900, 2000) + plate.search(64));
+        askedBefore("addStar", plate -> plate.addStar(100, 0, 9));
+        askedBefore("removeStar", plate -> plate.removeStar(0));
+        askedBefore("runCommands", ArcPlate::runCommands);
+        askedBefore("undo", ArcPlate::undo);
+        askedBefore("clearCommands", ArcPlate::clearCommands);
+        askedBefore("type", plate -> plate.type(' '));
+    }
+
+    /** A good trail with a gap and a match, all of which was asked, and then an empty one. */
+    private static ArcPlate goodThenEmpty() {
+        ArcPlate plate = around(1000, 100, 0, 100, 0);
+        plate.set(0, 0);
+        plate.addTrail();
+        plate.addStar(100, 0, 9);
+        dueTrail(plate, 0, 2, 100, 0, 0, 0, 0, 1, 1, 0);
+        return plate;
+    }
+
+    private static void nothingLingers() {
+        tell("a trail without points has no values, whatever stood at its number before");
+        ArcPlate emptied = goodThenEmpty();
+        emptied.removePoint(0, 1);
+        emptied.removePoint(0, 0);
+        dueTrail(emptied, 0, 0, NONE, NONE, NONE, NONE, NONE, 0, 0, NONE);
+        dueWhole(emptied, 2, 1, 2000, 2000, 0, 0, 0, 0, 1, 0, 0);
+        due(NONE, emptied.meanRate(), "mean rate");
+        due(NONE, emptied.meanScale(), "mean scale");
+        due(NONE, emptied.bestZero(), "best zero");
+        ArcPlate removed = goodThenEmpty();
+        removed.removeTrail(0);
+        dueTrail(removed, 0, 0, NONE, NONE, NONE, NONE, NONE, 0, 0, NONE);
+        dueWhole(removed, 1, 1, 2000, 2000, 0, 0, 0, 0, 1, 0, 0);
+        removed.undo();
+        dueTrail(removed, 0, 2, 100, 0, 0, 0, 0, 1, 1, 0);
+        due(0, removed.meanRate(), "mean rate brought back");
+        ArcPlate undone = new ArcPlate();
+        run(undone, "trail;");
+        run(undone, "point 0 0 2100 2000;point 0 1000 2100 2000;back 0;star 100 0 9;");
+        dueTrail(undone, 0, 2, 100, 0, 0, 0, 0, 1, 1, 0);
+        undone.undo();
+        dueTrail(undone, 0, 0, NONE, NONE, NONE, NONE, NONE, 0, 0, NONE);
+        dueWhole(undone, 1, 0, 2000, 2000, 0, 0, 0, 0, 0, 0, 0);
+    }
+
     private static void stops() {
         tell("promise 27: 0 if there was no run, else that of the latest run without a fault");
         ArcPlate plate = new ArcPlate();
@@ -337,6 +403,8 @@ public final class UndoEdgeTest extends Checks {
         undoLeavesTextAndStop();
         undoOfFullThings();
         undoOfChangesInARow();
+        askingMakesNoDifference();
+        nothingLingers();
         stops();
         hashesWrapAround();
         hashOfAMatch();
