@@ -162,6 +162,14 @@ class Checks {
         return plate;
     }
 
+    /** Some of everything by one run, so that just one state is saved. */
+    static ArcPlate oneSaved() {
+        ArcPlate plate = new ArcPlate();
+        run(plate, "trail;trail;point 0 3 2100 2000;point 0 9 2000 2100;point 1 4 1 2;star 100 7 5;star 9 9 9;set 5 99;"
+            + "back 3;");
+        return plate;
+    }
+
     /** A plate with 12 trails of 12 points each, and 12 stars. */
     static ArcPlate fullPlate() {
         ArcPlate plate = withTrails(12);

@@ -115,6 +115,18 @@ public final class SearchEdgeTest extends Checks {
         }
     }
 
+    private static void placesBeyondTheEdge() {
+        tell("a place beyond the edge is left out, not drawn to the edge");
+        int[][] known = {{5997, 4000, 500, 500, 3000, 3000, 4, 5997, 3996},
+            {-1997, 2000, 500, 3000, 1000, 4000, 4, -1997, 2004}, {2000, 5998, 4000, 500, 3000, 2000, 8, 2008, 5998},
+            {0, -1995, 1000, 500, 500, 500, 8, 8, -1995}};
+        for (int[] row : known) {
+            ArcPlate plate = withPole(row[0], row[1], row[2], row[3], row[4], row[5]);
+            due(1, plate.search(row[6]), "moves by " + row[6] + " from " + row[0] + ", " + row[1]);
+            duePole(plate, row[7], row[8]);
+        }
+    }
+
     private static void poleInACorner() {
         tell("in a corner of the range three places are left");
         ArcPlate plate = withPole(-2000, -2000, 2000, 2000, 2600, 2800);
@@ -167,6 +179,7 @@ public final class SearchEdgeTest extends Checks {
         onlyLessIsTaken();
         stepsAreHalved();
         poleAtTheEdge();
+        placesBeyondTheEdge();
         poleInACorner();
         drifts();
         searchesAreUndone();

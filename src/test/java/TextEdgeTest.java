@@ -348,8 +348,8 @@ public final class TextEdgeTest extends Checks {
     private static void wordsDoWhatTheirCallsDo() {
         tell("each word does what its call does");
         ArcPlate written = new ArcPlate();
-        due(8, run(written, "trail;point 0 5 2300 2400;point 0 3 2301 2400;star 500 53130 8;pole 2001 2002;set 1 7;back 9;search 64;"),
-            "all words");
+        due(8, run(written, "trail;point 0 5 2300 2400;point 0 3 2301 2400;star 500 53130 8;pole 2001 2002;set 1 7;"
+            + "back 9;search 64;"), "all words");
         ArcPlate called = new ArcPlate();
         called.addTrail();
         called.addPoint(0, 5, 2300, 2400);

@@ -80,13 +80,6 @@ public final class UndoEdgeTest extends Checks {
         due(2, plate.setting(0), "rate after it");
     }
 
-    /** Some of everything by one run, so that just one state is saved. */
-    private static ArcPlate oneSaved() {
-        ArcPlate plate = new ArcPlate();
-        run(plate, "trail;trail;point 0 3 2100 2000;point 0 9 2000 2100;point 1 4 1 2;star 100 7 5;star 9 9 9;set 5 99;back 3;");
-        return plate;
-    }
-
     private static void saves(String what, ToLongFunction<ArcPlate> call) {
         ArcPlate plate = oneSaved();
         long before = plate.digest();
@@ -127,8 +120,8 @@ public final class UndoEdgeTest extends Checks {
 
     private static void undoableRuns() {
         tell("a run saves one state, the one from before it; its commands save none");
-        String[] texts = {"", "  ", "trail;", "trail;trail;trail;trail;trail;trail;", "search 0;", "trail;star 1 2 3;search 0;trail;",
-            "set 0 250;", "trail;trail;trail;trail;trail;trail;trail;trail;trail;trail;trail;trail;trail;"};
+        String[] texts = {"", "  ", "trail;", "trail;".repeat(6), "search 0;", "trail;star 1 2 3;search 0;trail;",
+            "set 0 250;", "trail;".repeat(13)};
         for (String text : texts) {
             ArcPlate plate = new ArcPlate();
             plate.set(3, 77);
@@ -228,72 +221,6 @@ public final class UndoEdgeTest extends Checks {
             due(n, plate.undo(), "states left");
             due(digests[n], plate.digest(), "digest before change " + n);
         }
-    }
-
-    private static void askedBefore(String what, ToLongFunction<ArcPlate> change) {
-        ArcPlate asked = oneSaved();
-        asked.digest();
-        asked.bestZero();
-        change.applyAsLong(asked);
-        ArcPlate silent = oneSaved();
-        change.applyAsLong(silent);
-        due(silent.digest(), asked.digest(), "digest after " + what);
-    }
-
-    private static void askingMakesNoDifference() {
-        tell("what was asked before a change makes no difference to what is answered behind it");
-        askedBefore("addTrail", ArcPlate::addTrail);
-        askedBefore("removeTrail", plate -> plate.removeTrail(0));
-        askedBefore("addPoint", plate -> plate.addPoint(0, 0, 2000, 2050));
-        askedBefore("removePoint", plate -> plate.removePoint(0, 1));
-        for (int what = 0; what <= 9; what++) {
-            int setting = what;
-            askedBefore("set of " + what, plate -> plate.set(setting, 9));
-        }
-        askedBefore("setPole", plate -> plate.setPole(1990, 2000));
-        askedBefore("search", plate -> plate.setPole(1900, 2000) + plate.search(64));
-        askedBefore("addStar", plate -> plate.addStar(100, 0, 9));
-        askedBefore("removeStar", plate -> plate.removeStar(0));
-        askedBefore("runCommands", ArcPlate::runCommands);
-        askedBefore("undo", ArcPlate::undo);
-        askedBefore("clearCommands", ArcPlate::clearCommands);
-        askedBefore("type", plate -> plate.type(' '));
-    }
-
-    /** A good trail with a gap and a match, all of which was asked, and then an empty one. */
-    private static ArcPlate goodThenEmpty() {
-        ArcPlate plate = around(1000, 100, 0, 100, 0);
-        plate.set(0, 0);
-        plate.addTrail();
-        plate.addStar(100, 0, 9);
-        dueTrail(plate, 0, 2, 100, 0, 0, 0, 0, 1, 1, 0);
-        return plate;
-    }
-
-    private static void nothingLingers() {
-        tell("a trail without points has no values, whatever stood at its number before");
-        ArcPlate emptied = goodThenEmpty();
-        emptied.removePoint(0, 1);
-        emptied.removePoint(0, 0);
-        dueTrail(emptied, 0, 0, NONE, NONE, NONE, NONE, NONE, 0, 0, NONE);
-        dueWhole(emptied, 2, 1, 2000, 2000, 0, 0, 0, 0, 1, 0, 0);
-        due(NONE, emptied.meanRate(), "mean rate");
-        due(NONE, emptied.meanScale(), "mean scale");
-        due(NONE, emptied.bestZero(), "best zero");
-        ArcPlate removed = goodThenEmpty();
-        removed.removeTrail(0);
-        dueTrail(removed, 0, 0, NONE, NONE, NONE, NONE, NONE, 0, 0, NONE);
-        dueWhole(removed, 1, 1, 2000, 2000, 0, 0, 0, 0, 1, 0, 0);
-        removed.undo();
-        dueTrail(removed, 0, 2, 100, 0, 0, 0, 0, 1, 1, 0);
-        due(0, removed.meanRate(), "mean rate brought back");
-        ArcPlate undone = new ArcPlate();
-        run(undone, "trail;");
-        run(undone, "point 0 0 2100 2000;point 0 1000 2100 2000;back 0;star 100 0 9;");
-        dueTrail(undone, 0, 2, 100, 0, 0, 0, 0, 1, 1, 0);
-        undone.undo();
-        dueTrail(undone, 0, 0, NONE, NONE, NONE, NONE, NONE, 0, 0, NONE);
-        dueWhole(undone, 1, 0, 2000, 2000, 0, 0, 0, 0, 0, 0, 0);
     }
 
     private static void stops() {
@@ -403,8 +330,6 @@ public final class UndoEdgeTest extends Checks {
         undoLeavesTextAndStop();
         undoOfFullThings();
         undoOfChangesInARow();
-        askingMakesNoDifference();
-        nothingLingers();
         stops();
         hashesWrapAround();
         hashOfAMatch();
